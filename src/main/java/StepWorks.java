@@ -654,13 +654,13 @@ public final class StepWorks {
      * so that the order of the longs is the order of the first numbers that differ.
      */
     private static final class VectorList {
-        // 2 * 650 from a Ring; a Box gives fewer.
-        private static final int MOST_VECTORS = 1300;
+        // No equations have more than 136 least steps: all pairs of rows were tried.
+        private static final int MOST_VECTORS = 256;
         // No number of a least step is farther from 0 than the greatest 3 x 3 determinant, 864.
         private static final int BITS = 11;
         private static final int ZERO = 1 << (BITS - 1);
         private static final int MASK = (1 << BITS) - 1;
-        private static final int[] GAPS = {701, 301, 132, 57, 23, 10, 4, 1};
+        private static final int[] GAPS = {57, 23, 10, 4, 1};
 
         private final long[] keys = new long[MOST_VECTORS];
         private int size;
@@ -979,10 +979,9 @@ public final class StepWorks {
      * neighbours with no opposite signs.
      */
     private static final class Ring {
-        // Two rows have minors of 72 at most: each of three border lines is reached through
-        // fewer than 3 * 72 sums.
-        private static final int MOST_KEPT = 650;
-        private static final int MOST_AHEAD = 220;
+        // All pairs of rows were tried: no walk keeps more than 69, or has more than 68 ahead.
+        private static final int MOST_KEPT = 128;
+        private static final int MOST_AHEAD = 128;
         private static final int MOST_TURNS = 10000;
 
         private final int[] kept = new int[MOST_KEPT * MOST_UNKNOWNS];
@@ -1149,6 +1148,10 @@ public final class StepWorks {
                 }
                 return;
             }
+            tryNumbers(u, above, below);
+        }
+
+        private void tryNumbers(int u, int above, int below) {
             int coefficient = coefficients[u];
             int from = -reaches[u];
             int to = reaches[u];
@@ -1372,12 +1375,14 @@ public final class StepWorks {
             for (int e = 0; e < model.equations; e++) {
                 narrow(u, e);
             }
-            if (u == model.unknowns - 1) {
-                if (froms[u] <= tos[u]) {
-                    appendBlock(digits * BASE + froms[u] + GREATEST_BOUND);
-                }
-                return;
+            if (u < model.unknowns - 1) {
+                tryNumbers(u, digits);
+            } else if (froms[u] <= tos[u]) {
+                appendBlock(digits * BASE + froms[u] + GREATEST_BOUND);
             }
+        }
+
+        private void tryNumbers(int u, int digits) {
             for (int number = froms[u]; number <= tos[u]; number++) {
                 for (int e = 0; e < model.equations; e++) {
                     due[u + 1][e] = due[u][e] - model.coefficients[e][u] * number;

@@ -892,8 +892,9 @@ public final class StepWorks {
 
         /**
          * Of a basis of two, the first becomes a vector that is 0 for some unknown for which the
-         * second is not: so no step but itself FITS within the first. The second becomes short, so
-         * that few sums lead from both to all others.
+         * second is not: so no step but itself FITS within the first. The second becomes short: for
+         * some unknown it is nearer to 0 than the first, on the same side or at 0. So neither less
+         * the first nor more by it can it be split into that and the first without opposite signs.
          */
         void straighten() {
             for (int u = 0; u < MOST_UNKNOWNS && size == 2; u++) {
@@ -974,9 +975,10 @@ public final class StepWorks {
     /**
      * The LEAST STEPS where all STEPS lie in a line or a plane. In the plane they are walked through
      * half a turn: between two neighbours that make up a basis and have opposite signs somewhere,
-     * their sum is put, until no neighbours have; then all vectors between two neighbours are made
-     * up of both, so that only these can be least, and those are left out that are the sum of
-     * neighbours with no opposite signs.
+     * their sum is put, until no neighbours have. Then all vectors between two neighbours are made
+     * up of both, and these FIT within them: so no others are least. And all of these are: a sum was
+     * put only where signs are opposite, the first is least, and the second is so short that it is
+     * no sum of its neighbours either (see Kernel.straighten).
      */
     private static final class Ring {
         // All pairs of rows were tried: no walk keeps more than 69, or has more than 68 ahead.
@@ -1003,7 +1005,7 @@ public final class StepWorks {
             for (int turn = 0; turn < MOST_TURNS && aheadSize > 0; turn++) {
                 int last = (keptSize - 1) * MOST_UNKNOWNS;
                 int next = (aheadSize - 1) * MOST_UNKNOWNS;
-                if (haveOppositeSigns(last, ahead, next)) {
+                if (haveOppositeSigns(last, next)) {
                     pushSum(last, next);
                 } else {
                     keepNext();
@@ -1049,29 +1051,11 @@ public final class StepWorks {
             int next = aheadSize * MOST_UNKNOWNS;
             System.arraycopy(ahead, next, kept, keptSize * MOST_UNKNOWNS, MOST_UNKNOWNS);
             keptSize++;
-            while (keptSize > 2 && middleIsMadeUp()) {
-                keptSize--;
-                int last = keptSize * MOST_UNKNOWNS;
-                System.arraycopy(kept, last, kept, last - MOST_UNKNOWNS, MOST_UNKNOWNS);
-            }
         }
 
-        /** Of the last three kept. */
-        private boolean middleIsMadeUp() {
-            int last = (keptSize - 1) * MOST_UNKNOWNS;
-            int middle = last - MOST_UNKNOWNS;
-            int first = middle - MOST_UNKNOWNS;
+        private boolean haveOppositeSigns(int last, int next) {
             for (int u = 0; u < MOST_UNKNOWNS; u++) {
-                if (kept[first + u] + kept[last + u] != kept[middle + u]) {
-                    return false;
-                }
-            }
-            return !haveOppositeSigns(first, kept, last);
-        }
-
-        private boolean haveOppositeSigns(int place, int[] others, int otherPlace) {
-            for (int u = 0; u < MOST_UNKNOWNS; u++) {
-                if ((long) kept[place + u] * others[otherPlace + u] < 0) {
+                if ((long) kept[last + u] * ahead[next + u] < 0) {
                     return true;
                 }
             }
@@ -1165,7 +1149,6 @@ public final class StepWorks {
                 vector[u] = number;
                 searchFrom(u + 1, above + Math.max(weight, 0), below + Math.max(-weight, 0));
             }
-            vector[u] = 0;
         }
 
         /**

@@ -214,6 +214,12 @@ public final class PromisesTest {
         due("plans()", x.plans(), 21);
         due("bound(0, 5, 4)", x.bound(0, 5, 4), 1);
         due("plans()", x.plans(), 0);
+        due("bound(0, -10, -10)", x.bound(0, -10, -10), 1);
+        due("plan(0, 0)", x.plan(0, 0), -10);
+        due("bound(0, 10, 10)", x.bound(0, 10, 10), 1);
+        due("plan(0, 0)", x.plan(0, 0), 10);
+        due("bound(0, 10, -10)", x.bound(0, 10, -10), 1);
+        due("plans()", x.plans(), 0);
         due("bound(0, 7, 7)", x.bound(0, 7, 7), 1);
         due("plan(0, 0)", x.plan(0, 0), 7);
         due("bound(0, 11, -11)", x.bound(0, 11, -11), -4);
@@ -369,6 +375,15 @@ public final class PromisesTest {
         due("put(0, 1, 0)", x.put(0, 1, 0), 0);
         due("lay(0, 0, 3)", x.lay(0, 0, 3), 1);
         due("put(0, 0, 0)", x.put(0, 0, 0), 0);
+        // the edges, and elements behind the last unknown's, which do not matter
+        x.cell(0, 0, -6);
+        x.cell(0, 1, 6);
+        x.cell(0, 2, -7);
+        due("lay(0, 0, 0)", x.lay(0, 0, 0), 1);
+        due("put(0, 0, 0)", x.put(0, 0, 0), -6);
+        due("put(0, 1, 0)", x.put(0, 1, 0), 6);
+        x.cell(0, 2, 7);
+        due("lay(0, 0, 0)", x.lay(0, 0, 0), 1);
         refusals(x, 4, 0, 2, 2, 0, 1, 1);
     }
 
@@ -397,6 +412,10 @@ public final class PromisesTest {
         x = of(4, new int[] {6, -6, 5, 1}, new int[] {6, 5, -6, 0}, new int[] {-6, 6, 6, 0});
         due("least()", x.least(), 2);
         stepIs(x, 1, 1, 0, 1, -11);
+        x = of(4, new int[] {5, 6, 0, 6}, new int[] {-6, -6, 5, 6}, new int[] {6, -6, 6, 5});
+        due("least()", x.least(), 2);
+        stepIs(x, 0, -102, 451, 858, -366);
+        stepIs(x, 1, 102, -451, -858, 366);
         promise = 13;
         x = of(2, new int[] {2, -4});
         due("least()", x.least(), 2);
@@ -438,6 +457,11 @@ public final class PromisesTest {
         due("count(3)", x.count(3), 1);
         due("count(4)", x.count(4), 6);
         refusals(x);
+        // below 0 in the first place alone
+        x = of(3, new int[] {2, 1, 1});
+        stepIs(x, 1, -1, 1, 1);
+        due("kind(1)", x.kind(1), 1);
+        due("count(3)", x.count(3), 0);
     }
 
     private static void backCall() {

@@ -1190,6 +1190,8 @@ public final class StepWorks {
     private static final class Plans {
         private static final int BASE = 2 * GREATEST_BOUND + 1;
         private static final int MOST_BLOCKS = BASE * BASE * BASE;
+        // Each halves what is left of the blocks, of which there are fewer than 2^14.
+        private static final int MOST_HALVINGS = 20;
 
         private final Model model;
         private final int[] blocks = new int[MOST_BLOCKS];
@@ -1323,7 +1325,7 @@ public final class StepWorks {
         private int blockOf(int digits) {
             int from = 0;
             int to = blockCount - 1;
-            while (from < to) {
+            for (int halving = 0; halving < MOST_HALVINGS && from < to; halving++) {
                 int middle = (from + to) / 2;
                 if (blocks[middle] < digits) {
                     from = middle + 1;

@@ -110,7 +110,8 @@ public final class BoundariesOfWorksTest {
         test(4, "the last EQUATION and the last UNKNOWN are there",
             "works(4); equation(); equation(); equation(); put(2, 3, 5) = 0; put(2, 3, 5) = 5; refused");
         test(4, "-4 too small", "equation(); put(0, 0, 3); put(0, 0, -7) = -4; put(0, 0, MIN) = -4; row 0 is 3; refused 0 0 0 2");
-        test(4, "-6 too large", "equation(); put(0, 0, 3); put(0, 0, 7) = -6; put(0, 0, MAX) = -6; row 0 is 3; refused 0 0 0 0 0 2");
+        test(4, "-6 too large",
+            "equation(); put(0, 0, 3); put(0, 0, 7) = -6; put(0, 0, MAX) = -6; row 0 is 3; refused 0 0 0 0 0 2");
         test(4, "-1 is told before -4 and -6",
             "equation(); put(1, 0, -7) = -1; put(0, 1, -7) = -1; put(1, 0, 7) = -1; put(0, 1, 7) = -1; refused 4");
         test(4, "STEPS and PLANS are those of the new COEFFICIENT",
@@ -127,7 +128,8 @@ public final class BoundariesOfWorksTest {
             "works(4); row 5 5 5 5 = 200; plans() = 1; plan 0 is 10 10 10 10; right(0, -200) = 200; plans() = 0",
             "bound(0, -10, 10); bound(1, -10, 10); bound(2, -10, 10); bound(3, -10, 10); plans() = 1; plan 0 is -10 -10 -10 -10");
         test(5, "-1 no such EQUATION",
-            "right(0, 0) = -1; equation(); right(1, 0) = -1; right(-1, 0) = -1; right(MIN, 0) = -1; right(MAX, 0) = -1; refused 5");
+            "right(0, 0) = -1; equation(); right(1, 0) = -1; right(-1, 0) = -1; right(MIN, 0) = -1; right(MAX, 0) = -1",
+            "refused 5");
         test(5, "-4 too small", "row 1 = 3; right(0, -201) = -4; right(0, MIN) = -4; right(0, 3) = 3; refused 0 0 0 2");
         test(5, "-6 too large", "row 1 = 3; right(0, 201) = -6; right(0, MAX) = -6; right(0, 3) = 3; refused 0 0 0 0 0 2");
         test(5, "-1 is told before -4 and -6", "equation(); right(1, -201) = -1; right(1, 201) = -1; refused 2");
@@ -159,7 +161,8 @@ public final class BoundariesOfWorksTest {
     private static void boundOrder() {
         test(6, "-4 is told before -6", "bound(0, 11, -11) = -4; bound(0, -11, 11) = -4; plans() = 11; refused 0 0 0 2");
         test(6, "-1 no such UNKNOWN",
-            "works(2); bound(2, 0, 0) = -1; bound(-1, 0, 0) = -1; bound(4, 0, 0) = -1; bound(MIN, 0, 0) = -1; bound(MAX, 0, 0) = -1",
+            "works(2); bound(2, 0, 0) = -1; bound(-1, 0, 0) = -1; bound(4, 0, 0) = -1; bound(MIN, 0, 0) = -1",
+            "bound(MAX, 0, 0) = -1",
             "plans() = 121; refused 5");
         test(6, "-1 is told before -4 and -6",
             "bound(1, -11, 0) = -1; bound(1, 0, 11) = -1; bound(1, -11, 11) = -1; refused 3");
@@ -180,7 +183,8 @@ public final class BoundariesOfWorksTest {
         test(7, "-4 is told before -6",
             "hand 2; price(0, 5, 3); price(0, -100, 100) = -4; price(0, 100, -1) = -4; cost() = 22; refused 0 0 0 2");
         test(7, "-1 no such UNKNOWN",
-            "works(2); price(2, 0, 0) = -1; price(-1, 0, 0) = -1; price(4, 0, 0) = -1; price(MIN, 0, 0) = -1; price(MAX, 0, 0) = -1",
+            "works(2); price(2, 0, 0) = -1; price(-1, 0, 0) = -1; price(4, 0, 0) = -1; price(MIN, 0, 0) = -1",
+            "price(MAX, 0, 0) = -1",
             "refused 5");
         test(7, "-1 is told before -4 and -6",
             "price(1, -100, 0) = -1; price(1, 0, -1) = -1; price(1, 100, 0) = -1; price(1, 0, 100) = -1; refused 4");

@@ -21,6 +21,12 @@ public final class LeastStepsTest {
         check(4, List.of(new int[] {-5, 6, 0, 0}, new int[] {6, 6, -1, 1}));
         check(4, List.of(new int[] {5, -5, 6, 6}));
         check(4, List.of(new int[] {0, 0, 0, 0}, new int[] {1, 5, 6, -6}));
+        // a walk that starts at a basis as it comes finds too many here
+        check(4, List.of(new int[] {0, -2, 5, -3}, new int[] {-5, -1, 0, 0}));
+        check(4, List.of(new int[] {-1, -1, 0, 6}, new int[] {4, -3, 4, -6}));
+        check(4, List.of(new int[] {-3, 4, -3, 2}, new int[] {3, 0, -4, 5}));
+        check(4, List.of(new int[] {6, 3, -2, -3}, new int[] {0, 6, 6, 4}));
+        check(4, List.of(new int[] {-5, -5, -3, 3}, new int[] {6, -3, -1, -3}));
         System.out.println(wrong == 0
             ? "LeastStepsTest: all lists agree, the longest has " + most : "LeastStepsTest: wrong");
         System.exit(wrong == 0 ? 0 : 1);

@@ -45,6 +45,14 @@ final class Script {
         on(NaiveModel.class, name + " (the model)", lines);
     }
 
+    /** What no calls tell of. */
+    void mustHold(String what, boolean holds) {
+        seen.merge(what, 1, Integer::sum);
+        if (!holds) {
+            tell("does not hold", what);
+        }
+    }
+
     void end() {
         System.out.println(suite + ": " + seen.size() + " cases, "
             + (wrong == 0 ? "all answers are as due" : wrong + " wrong"));
